@@ -556,7 +556,7 @@ public final class AsWasSaid {
         boolean negated = word % 12 >= 6;
         longer.become(saying);
         longer.append(plus, negated, word % 6);
-        longer.workOut(secondSenses);
+        longer.workOutReadings(secondSenses);
         return longer.readingsSoIn(world);
     }
 
@@ -722,7 +722,7 @@ public final class AsWasSaid {
             words++;
         }
 
-        /** Takes over the words alone: the readings are to be worked out then. */
+        /** The words alone: the readings are to be worked out then. */
         void become(Saying model) {
             words = 0;
             for (int word = 0; word < model.words && word < MOST_WORDS; word++) {
@@ -731,25 +731,16 @@ public final class AsWasSaid {
         }
 
         void workOut(int[] secondSenses) {
-            readings = 0;
-            if (words > 0) {
-                workOutWords(secondSenses);
-                workOutReadings();
-            }
+            workOutReadings(secondSenses);
             weigh();
         }
 
-        private void workOutWords(int[] secondSenses) {
-            for (int word = 0; word < words && word < MOST_WORDS; word++) {
-                int letter = letters[word];
-                int second = letter >= 0 && letter < secondSenses.length ? secondSenses[letter] : letter;
-                long change = negations[word] ? -1L : 0L;
-                firstTruths[word] = worldsOfFact(letter) ^ change;
-                secondTruths[word] = worldsOfFact(second) ^ change;
+        void workOutReadings(int[] secondSenses) {
+            readings = 0;
+            if (isNone()) {
+                return;
             }
-        }
-
-        private void workOutReadings() {
+            workOutWords(secondSenses);
             int waysOfPluses = 1 << countPluses();
             int waysOfSenses = 1 << words;
             for (int brackets = 0; brackets < bracketings(); brackets++) {
@@ -760,6 +751,16 @@ public final class AsWasSaid {
                         readings++;
                     }
                 }
+            }
+        }
+
+        private void workOutWords(int[] secondSenses) {
+            for (int word = 0; word < words && word < MOST_WORDS; word++) {
+                int letter = letters[word];
+                int second = letter >= 0 && letter < secondSenses.length ? secondSenses[letter] : letter;
+                long change = negations[word] ? -1L : 0L;
+                firstTruths[word] = worldsOfFact(letter) ^ change;
+                secondTruths[word] = worldsOfFact(second) ^ change;
             }
         }
 
@@ -789,17 +790,22 @@ public final class AsWasSaid {
         }
 
         private long truthOf(int brackets, int ors, int seconds) {
+            switch (words) {
+                case 1: return wordTruth(0, seconds);
+                case 2: return joined(ors, 0, wordTruth(0, seconds), wordTruth(1, seconds));
+                case 3: return truthOfThree(brackets, ors, seconds);
+                default: return truthOfFour(brackets, ors, seconds);
+            }
+        }
+
+        private long truthOfThree(int brackets, int ors, int seconds) {
             long one = wordTruth(0, seconds);
             long two = wordTruth(1, seconds);
             long three = wordTruth(2, seconds);
-            switch (words) {
-                case 1: return one;
-                case 2: return joined(ors, 0, one, two);
-                case 3: return brackets == 0
-                    ? joined(ors, 1, joined(ors, 0, one, two), three)
-                    : joined(ors, 0, one, joined(ors, 1, two, three));
-                default: return truthOfFour(brackets, ors, seconds);
+            if (brackets == 0) {
+                return joined(ors, 1, joined(ors, 0, one, two), three);
             }
+            return joined(ors, 0, one, joined(ors, 1, two, three));
         }
 
         private long truthOfFour(int brackets, int ors, int seconds) {
