@@ -140,5 +140,10 @@ public final class OfAllTest {
         T.due("digest() with told", x.digest(),
             mixed(0, 2, 2, 3, 4, 5, 0, 0, 0, 0, 1, 0, 0, 4, 1, 0, 1, 1,
                 0, -1, 48, 48, 0, 0, 0, 1, 1, 43, 2, 1, 8, 1, 1, 16, 2, 1, 2, 0));
+        x.blank();
+        x.tell(2);
+        T.due("digest() with one world told", x.digest(),
+            mixed(0, 2, 2, 3, 4, 5, 0, 0, 0, 0, 1, 0, 0, 4, 1, 0, 1, 1,
+                0, -1, 48, 48, 0, 0, 0, 2, 0, 2, 1, 8, 1, 1, 16, 1, 0, 2, 0));
     }
 }

@@ -85,11 +85,11 @@ public final class WouldBeTest {
         T.due("na: ask(), the other asks nothing", x.ask(), 1);
         Due.said(x, "f");
         T.due("f: ask()", x.ask(), 0);
+        T.due("ask() again", x.ask(), 0);
         Due.said(x, "a+b&c+d");
-        // some reading is so unless (none of a, d, and not both of b, c): 52 and those of "a or b and c or d"
-        int some = x.left(0);
-        T.due("a+b&c+d: ask()", x.ask(), 4);
-        T.due("a+b&c+d: left(0)", some, x.left(0));
+        T.due("a+b&c+d: ask(), of no word", x.ask(), 4);
+        Due.said(x, "a+b+e");
+        T.due("a+b+e: ask()", x.ask(), 2);
         Due.said(x, "na&b");
         T.due("na&b: ask()", x.ask(), 2);
     }
