@@ -89,8 +89,6 @@ public final class EdgesOfAllTest {
             Due.in(x, world).round();
         }
         x.tell(63);
-        x.then(0);
-        x.then(63);
         x.hearer(1, 0, 0);
     }
 
@@ -369,8 +367,7 @@ public final class EdgesOfAllTest {
             DigestOf.numbers(0, 1, 2, 3, 4, 5, 0, 0, 0, 0, 0, 0, 0, -1, 0, 0, 63, 63, 0, 4, 2, 0, 0, 0, 0, 0, 0, 1, 0));
         digest("one that all readings say", Due.in(Due.said("a+b+c+d"), 63), "");
         digest("two sayings", Due.said(Due.said("a&b"), "f"), "");
-        AsWasSaid x = States.silent();
-        digest("none, but told", x, "a&");
+        digest("none", Due.in(new AsWasSaid(), 5), "");
     }
 
     private static void digestWithSayingAndTold() {
@@ -385,6 +382,7 @@ public final class EdgesOfAllTest {
         x.then(0);
         digest("one that does not fit", x, "");
         digest("three", States.rich(), "a&0");
+        digest("three, told, but no saying", States.silent(), "a&");
     }
 
     private static void digestOfThePage() {

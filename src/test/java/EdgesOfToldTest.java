@@ -169,6 +169,8 @@ public final class EdgesOfToldTest {
         fits(told(x, 2, 2, 2, 2, 2, 2), "2 six times", 4, 4);
         fits(told(x, 2, 2, 2, 2, 2, 34), "2 five times, 34", 0, Due.NONE);
         fits(told(x, 3, 3), "3, 3", 8, 0);
+        fits(told(x, 0, 3, 3), "0, 3, 3: the first is wrong", 0, Due.NONE);
+        fits(told(x, 3, 3, 2, 34), "3, 3, 2, 34: one between is wrong", 0, Due.NONE);
     }
 
     private static void hadHeTakenThatOne() {
@@ -318,6 +320,11 @@ public final class EdgesOfToldTest {
         x.times(60, 9, 1);
         x.times(60, 9, 2);
         T.due("digest() behind it", x.digest(), before);
+        AsWasSaid y = heard("f", 0, 0, 1);
+        T.due("times(1, 0, 0): a round", y.times(1, 0, 0), 1);
+        T.due("count(5): what a round would change", y.count(5), 0);
+        T.due("about(0, 5)", y.about(0, 5), 0);
+        T.due("count(4)", y.count(4), 0);
     }
 
     private static void timesOutside() {

@@ -58,6 +58,11 @@ public final class EdgesOfWhatWouldBeTest {
         z.hearer(4, 0, 0);
         z.hearer(0, 0, 1);
         T.due("anyhow() of a: the abbot ahead of the hearer", z.anyhow(), 64);
+        AsWasSaid once = Due.sensed(Due.said("a"), "112345");
+        once.hearer(0, 1, 1);
+        once.hearer(1, 0, 0);
+        // from a alone the fool undoes a; in one round more the hearer would do b
+        T.due("anyhow() of a, or b: one round", once.anyhow(), 48);
     }
 
     private static void anyhowWouldBe() {
@@ -68,6 +73,11 @@ public final class EdgesOfWhatWouldBeTest {
         T.due("anyhow() again", x.anyhow(), first);
         T.due("digest() behind it", x.digest(), before);
         T.due("anyhow() in another world", Due.in(x, 63).anyhow(), first);
+        AsWasSaid y = Due.said("f");
+        y.hearer(0, 0, 1);
+        y.anyhow();
+        T.due("count(5): what a round would change", y.count(5), 0);
+        T.due("about(0, 5)", y.about(0, 5), 0);
     }
 
     private static void anyhowWithoutSaying() {

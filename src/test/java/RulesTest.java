@@ -5,8 +5,12 @@ import java.nio.file.Files;
 import java.nio.file.Path;
 import java.util.Arrays;
 import java.util.List;
+import java.util.Map;
 import java.util.Set;
+import java.util.TreeMap;
 import java.util.TreeSet;
+import java.util.regex.Matcher;
+import java.util.regex.Pattern;
 
 /** The face as the document tells it, and what of LANGUAGE.md a test can see. */
 public final class RulesTest {
@@ -16,6 +20,7 @@ public final class RulesTest {
         + "hearer(int,int,int)int image()int isSo(int,int)int left(int)int letter(int)int reading(int)int "
         + "restore()int round()int say()int sense(int)int senses()int set(int,int)int tell(int)int then(int)int "
         + "times(int,int,int)int";
+    private static final Pattern METHOD = Pattern.compile("^(?: {4}| {8})(?:[a-z]+ )*[A-Za-z\\[\\]]+ (\\w+)\\([^()]*\\) \\{$");
     private static final String[] RULED_OUT = {
         "import ", "package ", "catch", "throw", "try ", "finally", "->", "::", "synchronized", "assert", "@",
         "Exact(", "System.", "Random", "Object", "null", "String", "double", "float"
@@ -28,7 +33,10 @@ public final class RulesTest {
             members(inside);
             T.due(inside + " is static and private", inside.getModifiers() & 15, Modifier.STATIC | Modifier.PRIVATE);
         }
-        source(Files.readAllLines(Path.of(System.getProperty("source"))));
+        T.due("at most twelve classes", AsWasSaid.class.getDeclaredClasses().length < 12 ? 1 : 0, 1);
+        List<String> lines = Files.readAllLines(Path.of(System.getProperty("source")));
+        source(lines);
+        calls(lines);
         everyCallEverywhere();
         T.end();
     }
@@ -90,6 +98,39 @@ public final class RulesTest {
             boolean isConstructor = method.matches(" *(public )?[A-Z]\\w+\\(\\) \\{");
             T.due("outside a constructor: " + line, code.contains("new ") && !isConstructor ? 1 : 0, 0);
         }
+    }
+
+    /** Methods of one name are taken together: the calls go no deeper than what comes out here. */
+    private static void calls(List<String> lines) {
+        Map<String, String> bodies = new TreeMap<>();
+        String method = null;
+        for (String line : lines) {
+            String code = line.replaceAll("/\\*\\*.*|//.*", "");
+            Matcher head = METHOD.matcher(code);
+            if (head.find()) {
+                method = head.group(1);
+                bodies.putIfAbsent(method, "");
+            } else if (method != null) {
+                bodies.merge(method, code + "\n", String::concat);
+            }
+        }
+        T.due("methods were found", bodies.size() > 60 ? 1 : 0, 1);
+        Set<String> face = new TreeSet<>();
+        Arrays.stream(AsWasSaid.class.getDeclaredMethods()).forEach(one -> face.add(one.getName()));
+        T.due("all methods of the class were found", bodies.keySet().containsAll(face) ? 1 : 0, 1);
+        for (String name : bodies.keySet()) {
+            T.due(name + "() goes at most eight calls deep", depth(name, bodies, 0) <= 8 ? 1 : 0, 1);
+        }
+    }
+
+    private static int depth(String name, Map<String, String> bodies, int above) {
+        int deepest = 0;
+        for (String called : bodies.keySet()) {
+            boolean calls = Pattern.compile("\\b" + called + "\\(").matcher(bodies.get(name)).find();
+            // who calls himself would go on without end: nine is too deep already
+            deepest = calls && above < 9 ? Math.max(deepest, depth(called, bodies, above + 1)) : deepest;
+        }
+        return 1 + deepest;
     }
 
     /** No call throws, whatever the numbers, without a saying and with the longest one. */
